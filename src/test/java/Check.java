@@ -1,0 +1,104 @@
+/** What the tests share: answers compared, throws looked at, all that an object tells written down. */
+final class Check {
+    interface Call {
+        void run();
+    }
+
+    private static int wrong = 0;
+
+    private Check() {
+    }
+
+    static void due(String what, long got, long want) {
+        if (got != want) {
+            report(what + " answered " + got + ", due is " + want);
+        }
+    }
+
+    static void same(String what, String got, String want) {
+        if (!got.equals(want)) {
+            report(what + " is " + got + ", due is " + want);
+        }
+    }
+
+    static void report(String fault) {
+        wrong++;
+        System.out.println(fault);
+    }
+
+    static boolean isClean() {
+        return wrong == 0;
+    }
+
+    /** The call must throw just this exception, and x must tell the same before and after. */
+    static void refused(String what, TwinTuners x, Class<? extends RuntimeException> due, Call call) {
+        String before = tell(x);
+        String got = "nothing";
+        try {
+            call.run();
+        } catch (RuntimeException e) {
+            got = e.getClass().getName();
+        }
+        same("what " + what + " throws", got, due.getName());
+        same("the state after " + what, tell(x), before);
+    }
+
+    static void outOfBounds(String what, TwinTuners x, Call call) {
+        refused(what, x, IndexOutOfBoundsException.class, call);
+    }
+
+    static void badArgument(String what, TwinTuners x, Call call) {
+        refused(what, x, IllegalArgumentException.class, call);
+    }
+
+    static void badState(String what, TwinTuners x, Call call) {
+        refused(what, x, IllegalStateException.class, call);
+    }
+
+    static int countRequests(TwinTuners x) {
+        for (int n = 0; n < 1000; n++) {
+            try {
+                x.state(n);
+            } catch (IndexOutOfBoundsException e) {
+                return n;
+            }
+        }
+        return 1000;
+    }
+
+    /** All that can be asked without changing anything. */
+    static String tell(TwinTuners x) {
+        StringBuilder text = new StringBuilder();
+        text.append("now ").append(x.now()).append(" free ").append(x.free()).append(" back");
+        for (int k = 0; k <= 31; k++) {
+            text.append(' ').append(x.back(k));
+        }
+        int requests = countRequests(x);
+        for (int n = 0; n < requests; n++) {
+            text.append('\n').append(tellOne(x, n));
+        }
+        return text.toString();
+    }
+
+    static String tellOne(TwinTuners x, int n) {
+        StringBuilder text = new StringBuilder();
+        text.append(n).append(": state ").append(x.state(n));
+        text.append(" plan ").append(x.planFrom(n)).append(' ').append(x.planTo(n));
+        text.append(" recorded ").append(x.recorded(n)).append(" short ").append(x.shortBy(n)).append(" words");
+        for (int k = -1; k <= 80; k++) {
+            text.append(' ').append(x.word(n, k));
+        }
+        text.append(" bookmarks");
+        for (int i = -1; i <= 6; i++) {
+            text.append(' ').append(x.bookmarkAt(n, i));
+        }
+        return text.toString();
+    }
+
+    static void end() {
+        System.out.println(wrong == 0 ? "all answers are as due" : wrong + " answers are not as due");
+        if (wrong != 0) {
+            System.exit(1);
+        }
+    }
+}
