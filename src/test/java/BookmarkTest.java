@@ -37,6 +37,9 @@ public final class BookmarkTest {
         x.ticks(9);
         Check.due("20: another recording has its own", x.bookmark(1, 7), 1);
         Check.due("21: another recording's", x.bookmarkAt(1, 0), 7);
+        TwinTuners y = running();
+        Check.due("20: second 0 as the first", y.bookmark(0, 0), 1);
+        Check.due("21: second 0 as the first", y.bookmarkAt(0, 0), 0);
         Check.due("20: FINISHED", x.bookmark(0, 7), 5);
         Check.due("21: FINISHED", x.bookmarkAt(0, 1), 7);
     }
