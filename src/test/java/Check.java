@@ -1,3 +1,5 @@
+import java.util.function.IntConsumer;
+
 /** What the tests share: answers compared, throws looked at, all that an object tells written down. */
 final class Check {
     interface Call {
@@ -53,6 +55,32 @@ final class Check {
 
     static void badState(String what, TwinTuners x, Call call) {
         refused(what, x, IllegalStateException.class, call);
+    }
+
+    /** Each number just outside 0 .. count - 1, and those farthest out, must be refused; the last one must not be. */
+    static void noSuchRequest(String what, TwinTuners x, IntConsumer call) {
+        int count = countRequests(x);
+        for (int n : new int[] {-1, count, 40, 41, Integer.MIN_VALUE, Integer.MAX_VALUE}) {
+            if (n < 0 || n >= count) {
+                outOfBounds(what + " of request " + n, x, () -> call.accept(n));
+            }
+        }
+        if (count > 0) {
+            taken(what + " of request " + (count - 1), () -> call.accept(count - 1));
+        }
+    }
+
+    static void taken(String what, Call call) {
+        try {
+            call.run();
+        } catch (RuntimeException e) {
+            report(what + " throws " + e.getClass().getName() + ", due is an answer");
+        }
+    }
+
+    static void plan(String what, TwinTuners x, int request, int from, int to) {
+        due("5: planFrom, " + what, x.planFrom(request), from);
+        due("6: planTo, " + what, x.planTo(request), to);
     }
 
     static int countRequests(TwinTuners x) {

@@ -19,28 +19,23 @@ public final class PlanTest {
         Check.end();
     }
 
-    private static void plan(String what, TwinTuners x, int request, int from, int to) {
-        Check.due("5: planFrom, " + what, x.planFrom(request), from);
-        Check.due("6: planTo, " + what, x.planTo(request), to);
-    }
-
     private static void coresByPriorityThenNumber() {
         TwinTuners x = new TwinTuners();
         x.request(0, 10, 5, 3, 0);
         x.request(1, 10, 5, 3, 0);
         x.request(2, 10, 5, 3, 0);
-        plan("least numbers first", x, 0, 10, 15);
-        plan("least numbers first", x, 1, 10, 15);
-        plan("no tuner left", x, 2, -1, -1);
+        Check.plan("least numbers first", x, 0, 10, 15);
+        Check.plan("least numbers first", x, 1, 10, 15);
+        Check.plan("no tuner left", x, 2, -1, -1);
         x.request(3, 14, 5, 4, 0);
-        plan("higher priority", x, 3, 14, 19);
-        plan("lowest number still fits", x, 0, 10, 15);
-        plan("pushed out by the higher priority", x, 1, -1, -1);
-        plan("also out", x, 2, -1, -1);
+        Check.plan("higher priority", x, 3, 14, 19);
+        Check.plan("lowest number still fits", x, 0, 10, 15);
+        Check.plan("pushed out by the higher priority", x, 1, -1, -1);
+        Check.plan("also out", x, 2, -1, -1);
         x.cancel(0);
-        plan("fits after a cancel", x, 1, 10, 15);
+        Check.plan("fits after a cancel", x, 1, 10, 15);
         x.request(4, 15, 1, 1, 0);
-        plan("touching is not overlapping", x, 4, 15, 16);
+        Check.plan("touching is not overlapping", x, 4, 15, 16);
     }
 
     private static void oneChannelTwice() {
@@ -49,8 +44,8 @@ public final class PlanTest {
         x.request(1, 10, 5, 3, 0);
         x.request(1, 8, 20, 1, 0);
         x.request(0, 12, 9, 1, 0);
-        plan("a channel taken twice is one", x, 2, 8, 28);
-        plan("both channels shared", x, 3, 12, 21);
+        Check.plan("a channel taken twice is one", x, 2, 8, 28);
+        Check.plan("both channels shared", x, 3, 12, 21);
     }
 
     private static void coresComeBeforePaddings() {
@@ -59,10 +54,10 @@ public final class PlanTest {
         x.request(1, 10, 5, 9, 22);
         x.request(2, 15, 5, 1, 0);
         x.request(3, 8, 2, 1, 0);
-        plan("low core before high padding", x, 2, 15, 20);
-        plan("low core before high padding", x, 3, 8, 10);
-        plan("the first padding fits beside", x, 0, 8, 17);
-        plan("the second padding does not", x, 1, 10, 15);
+        Check.plan("low core before high padding", x, 2, 15, 20);
+        Check.plan("low core before high padding", x, 3, 8, 10);
+        Check.plan("the first padding fits beside", x, 0, 8, 17);
+        Check.plan("the second padding does not", x, 1, 10, 15);
     }
 
     private static void afterComesBeforeBefore() {
@@ -70,14 +65,14 @@ public final class PlanTest {
         x.request(0, 0, 30, 9, 0);
         x.request(1, 10, 5, 5, 3);
         x.request(2, 18, 5, 4, 30);
-        plan("AFTER of the higher priority", x, 1, 10, 18);
-        plan("BEFORE has no room", x, 2, 18, 23);
+        Check.plan("AFTER of the higher priority", x, 1, 10, 18);
+        Check.plan("BEFORE has no room", x, 2, 18, 23);
         TwinTuners y = new TwinTuners();
         y.request(0, 0, 30, 9, 0);
         y.request(1, 10, 5, 4, 3);
         y.request(2, 18, 5, 5, 30);
-        plan("BEFORE of the higher priority", y, 2, 15, 23);
-        plan("AFTER has no room", y, 1, 10, 15);
+        Check.plan("BEFORE of the higher priority", y, 2, 15, 23);
+        Check.plan("AFTER has no room", y, 1, 10, 15);
     }
 
     private static void paddingIsAllOrNothing() {
@@ -86,29 +81,29 @@ public final class PlanTest {
         x.request(1, 10, 5, 5, 44);
         x.request(2, 18, 5, 5, 0);
         x.request(3, 5, 2, 5, 0);
-        plan("three of four free is nothing", x, 1, 10, 15);
+        Check.plan("three of four free is nothing", x, 1, 10, 15);
         TwinTuners y = new TwinTuners();
         y.request(0, 0, 40, 9, 0);
         y.request(1, 10, 5, 5, 44);
         y.request(2, 19, 5, 5, 0);
         y.request(3, 4, 2, 5, 0);
-        plan("four of four free", y, 1, 6, 19);
+        Check.plan("four of four free", y, 1, 6, 19);
     }
 
     private static void paddingBeforeNotBeforeNow() {
         TwinTuners x = new TwinTuners();
         x.request(0, 3, 5, 5, 30);
-        plan("BEFORE from NOW on", x, 0, 0, 8);
+        Check.plan("BEFORE from NOW on", x, 0, 0, 8);
         TwinTuners y = new TwinTuners();
         y.request(0, 3, 5, 5, 40);
-        plan("BEFORE would begin before NOW", y, 0, 3, 8);
+        Check.plan("BEFORE would begin before NOW", y, 0, 3, 8);
         Check.due("5: not RUNNING in its BEFORE", y.ticks(3), 0);
         Check.due("5: RUNNING from its start", y.tick(), 1);
-        plan("began at its start", y, 0, 3, 8);
+        Check.plan("began at its start", y, 0, 3, 8);
         TwinTuners z = new TwinTuners();
         z.request(0, 5, 3, 5, 20);
         z.cut(4);
-        plan("BEFORE cut off by a power cut", z, 0, 5, 8);
+        Check.plan("BEFORE cut off by a power cut", z, 0, 5, 8);
     }
 
     private static void paddingsByPriority() {
@@ -116,14 +111,14 @@ public final class PlanTest {
         x.request(0, 0, 40, 9, 0);
         x.request(1, 10, 5, 2, 2);
         x.request(2, 17, 5, 3, 20);
-        plan("higher BEFORE", x, 2, 15, 22);
-        plan("lower AFTER", x, 1, 10, 15);
+        Check.plan("higher BEFORE", x, 2, 15, 22);
+        Check.plan("lower AFTER", x, 1, 10, 15);
         TwinTuners y = new TwinTuners();
         y.request(0, 0, 40, 9, 0);
         y.request(1, 17, 5, 3, 20);
         y.request(2, 10, 5, 3, 2);
-        plan("lower number's BEFORE", y, 1, 15, 22);
-        plan("higher number's AFTER", y, 2, 10, 15);
+        Check.plan("lower number's BEFORE", y, 1, 15, 22);
+        Check.plan("higher number's AFTER", y, 2, 10, 15);
     }
 
     private static void runningPadsBeforeWaiting() {
@@ -131,11 +126,11 @@ public final class PlanTest {
         x.request(0, 0, 40, 9, 0);
         x.request(1, 2, 5, 1, 4);
         x.request(2, 11, 5, 9, 40);
-        plan("WAITING both: the higher one's", x, 2, 7, 16);
-        plan("WAITING both: the lower one's", x, 1, 2, 7);
+        Check.plan("WAITING both: the higher one's", x, 2, 7, 16);
+        Check.plan("WAITING both: the lower one's", x, 1, 2, 7);
         x.ticks(3);
-        plan("RUNNING first", x, 1, 2, 11);
-        plan("WAITING then", x, 2, 11, 16);
+        Check.plan("RUNNING first", x, 1, 2, 11);
+        Check.plan("WAITING then", x, 2, 11, 16);
     }
 
     private static void runningPadsByPriority() {
@@ -145,15 +140,15 @@ public final class PlanTest {
         x.request(1, 0, 5, 4, 4);
         x.request(2, 7, 5, 9, 0);
         x.tick();
-        plan("the higher one's AFTER", x, 1, 0, 9);
-        plan("the lower one's AFTER", x, 0, 0, 5);
+        Check.plan("the higher one's AFTER", x, 1, 0, 9);
+        Check.plan("the lower one's AFTER", x, 0, 0, 5);
         TwinTuners y = new TwinTuners();
         y.request(0, 0, 5, 4, 4);
         y.request(1, 0, 5, 4, 4);
         y.request(2, 7, 5, 9, 0);
         y.tick();
-        plan("the lower number's AFTER", y, 0, 0, 9);
-        plan("the higher number's AFTER", y, 1, 0, 5);
+        Check.plan("the lower number's AFTER", y, 0, 0, 9);
+        Check.plan("the higher number's AFTER", y, 1, 0, 5);
     }
 
     private static void runningIsNotPutOff() {
@@ -163,10 +158,10 @@ public final class PlanTest {
         x.tick();
         x.request(2, 2, 5, 9, 0);
         x.request(3, 10, 3, 9, 0);
-        plan("RUNNING keeps its tuner", x, 0, 0, 10);
-        plan("RUNNING in its BEFORE keeps it to its core's end", x, 1, 0, 14);
-        plan("higher priority comes too late", x, 2, -1, -1);
-        plan("fits behind the first", x, 3, 10, 13);
+        Check.plan("RUNNING keeps its tuner", x, 0, 0, 10);
+        Check.plan("RUNNING in its BEFORE keeps it to its core's end", x, 1, 0, 14);
+        Check.plan("higher priority comes too late", x, 2, -1, -1);
+        Check.plan("fits behind the first", x, 3, 10, 13);
         x.ticks(2);
         Check.due("4: it is MISSED", x.state(2), TwinTuners.MISSED);
     }
@@ -176,13 +171,13 @@ public final class PlanTest {
         x.request(0, 0, 3, 1, 5);
         x.request(1, 0, 20, 1, 0);
         x.ticks(2);
-        plan("in its core", x, 0, 0, 8);
+        Check.plan("in its core", x, 0, 0, 8);
         x.tick();
         x.request(2, 5, 2, 9, 0);
-        plan("past its core, to its END", x, 0, 0, 8);
-        plan("does not fit beside that", x, 2, -1, -1);
+        Check.plan("past its core, to its END", x, 0, 0, 8);
+        Check.plan("does not fit beside that", x, 2, -1, -1);
         x.request(3, 8, 2, 9, 0);
-        plan("fits behind it", x, 3, 8, 10);
+        Check.plan("fits behind it", x, 3, 8, 10);
         x.ticks(4);
         Check.due("4: runs to its END", x.state(0), TwinTuners.RUNNING);
         x.tick();
@@ -196,13 +191,13 @@ public final class PlanTest {
         x.request(1, 0, 20, 1, 0);
         x.tick();
         x.request(2, 6, 2, 1, 0);
-        plan("loses its AFTER to a core", x, 0, 0, 4);
+        Check.plan("loses its AFTER to a core", x, 0, 0, 4);
         x.cancel(2);
-        plan("has it again", x, 0, 0, 9);
+        Check.plan("has it again", x, 0, 0, 9);
         x.request(3, 6, 2, 1, 0);
         x.ticks(3);
         Check.due("4: FINISHED at its core's end", x.state(0), TwinTuners.FINISHED);
-        plan("its END", x, 0, 0, 4);
+        Check.plan("its END", x, 0, 0, 4);
     }
 
     private static void crowdedOnlyInTheMiddle() {
@@ -210,11 +205,11 @@ public final class PlanTest {
         x.request(0, 20, 1, 9, 0);
         x.request(1, 20, 1, 9, 0);
         x.request(2, 10, 20, 8, 0);
-        plan("one crowded second is enough", x, 2, -1, -1);
+        Check.plan("one crowded second is enough", x, 2, -1, -1);
         x.request(3, 10, 10, 8, 1);
-        plan("a crowded AFTER", x, 3, 10, 20);
+        Check.plan("a crowded AFTER", x, 3, 10, 20);
         x.request(4, 21, 10, 8, 10);
-        plan("a crowded BEFORE", x, 4, 21, 31);
+        Check.plan("a crowded BEFORE", x, 4, 21, 31);
     }
 
     private static void afterTheRun() {
@@ -223,13 +218,13 @@ public final class PlanTest {
         x.request(1, 2, 3, 4, 0);
         x.request(2, 2, 3, 3, 0);
         x.ticks(2);
-        plan("RUNNING from its BEFORE", x, 0, 1, 6);
+        Check.plan("RUNNING from its BEFORE", x, 0, 1, 6);
         x.ticks(10);
-        plan("FINISHED", x, 0, 1, 6);
-        plan("FINISHED without padding", x, 1, 2, 5);
-        plan("MISSED", x, 2, -1, -1);
+        Check.plan("FINISHED", x, 0, 1, 6);
+        Check.plan("FINISHED without padding", x, 1, 2, 5);
+        Check.plan("MISSED", x, 2, -1, -1);
         x.erase(0);
-        plan("ERASED, but it ran", x, 0, 1, 6);
+        Check.plan("ERASED, but it ran", x, 0, 1, 6);
     }
 
     private static void wrongInputs() {
