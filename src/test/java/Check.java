@@ -28,6 +28,10 @@ final class Check {
         System.out.println(fault);
     }
 
+    static int faults() {
+        return wrong;
+    }
+
     static boolean isClean() {
         return wrong == 0;
     }
@@ -94,7 +98,7 @@ final class Check {
         return 1000;
     }
 
-    /** All that can be asked without changing anything. */
+    /** All that can be asked without changing anything; beyond 512 calls, too: the class has no such limit. */
     static String tell(TwinTuners x) {
         StringBuilder text = new StringBuilder();
         text.append("now ").append(x.now()).append(" free ").append(x.free()).append(" back");
