@@ -87,6 +87,16 @@ final class Check {
         due("6: planTo, " + what, x.planTo(request), to);
     }
 
+    /** Recordings 0 and 1 hold twelve segments each, and both are FINISHED at 48. */
+    static TwinTuners fullDisk() {
+        TwinTuners x = new TwinTuners();
+        x.request(0, 0, 48, 5, 0);
+        x.request(1, 0, 48, 5, 0);
+        x.ticks(48);
+        due("19: full", x.free(), 0);
+        return x;
+    }
+
     static int countRequests(TwinTuners x) {
         for (int n = 0; n < 1000; n++) {
             try {

@@ -27,18 +27,8 @@ public final class DiskEdgeTest {
         Check.end();
     }
 
-    /** Recordings 0 and 1 hold twelve segments each, and both are FINISHED at 48. */
-    private static TwinTuners fullDisk() {
-        TwinTuners x = new TwinTuners();
-        x.request(0, 0, 48, 5, 0);
-        x.request(1, 0, 48, 5, 0);
-        x.ticks(48);
-        Check.due("19: full", x.free(), 0);
-        return x;
-    }
-
     private static TwinTuners protectedDisk() {
-        TwinTuners x = fullDisk();
+        TwinTuners x = Check.fullDisk();
         x.protect(0, true);
         x.protect(1, true);
         return x;
@@ -336,11 +326,11 @@ public final class DiskEdgeTest {
 
     // ERASED: its segments are free, its marks and BOOKMARKS gone, nothing is recorded.
     private static void erasedHasNothing() {
-        TwinTuners hand = fullDisk();
+        TwinTuners hand = Check.fullDisk();
         mark(hand);
         hand.erase(0);
         nothingLeft("by hand", hand, 12);
-        TwinTuners room = fullDisk();
+        TwinTuners room = Check.fullDisk();
         mark(room);
         room.protect(0, false);
         room.request(2, 48, 1, 5, 0);
@@ -382,7 +372,7 @@ public final class DiskEdgeTest {
         Check.due("19: a second takes one", x.free(), 23);
         x.erase(0);
         Check.due("19: back again", x.free(), 24);
-        TwinTuners y = fullDisk();
+        TwinTuners y = Check.fullDisk();
         Check.due("18: half of it", y.erase(0), 12);
         Check.due("19: half of it", y.free(), 12);
         Check.due("18: the other half", y.erase(1), 12);

@@ -295,7 +295,7 @@ public final class PromiseTest {
 
     // shortBy
     static void promise15() {
-        TwinTuners x = fullDisk();
+        TwinTuners x = Check.fullDisk();
         x.request(2, 48, 5, 5, 0);
         x.protect(0, true);
         x.protect(1, true);
@@ -314,12 +314,12 @@ public final class PromiseTest {
 
     // protect
     static void promise16() {
-        TwinTuners x = fullDisk();
+        TwinTuners x = Check.fullDisk();
         x.protect(0, true);
         takeOneSegment(x);
         Check.due("16: PROTECTED", x.state(0), TwinTuners.FINISHED);
         Check.due("16: not PROTECTED", x.state(1), TwinTuners.ERASED);
-        TwinTuners y = fullDisk();
+        TwinTuners y = Check.fullDisk();
         y.protect(0, true);
         y.protect(0, false);
         takeOneSegment(y);
@@ -330,12 +330,12 @@ public final class PromiseTest {
 
     // seen
     static void promise17() {
-        TwinTuners x = fullDisk();
+        TwinTuners x = Check.fullDisk();
         x.seen(1, true);
         takeOneSegment(x);
         Check.due("17: SEEN", x.state(1), TwinTuners.ERASED);
         Check.due("17: not SEEN", x.state(0), TwinTuners.FINISHED);
-        TwinTuners y = fullDisk();
+        TwinTuners y = Check.fullDisk();
         y.seen(1, true);
         y.seen(1, false);
         takeOneSegment(y);
@@ -462,16 +462,6 @@ public final class PromiseTest {
         x.cancel(4);
         x.ticks(5);
         x.erase(5);
-        return x;
-    }
-
-    /** Requests 0 and 1 have twelve segments each. */
-    private static TwinTuners fullDisk() {
-        TwinTuners x = new TwinTuners();
-        x.request(0, 0, 48, 5, 0);
-        x.request(1, 0, 48, 5, 0);
-        x.ticks(48);
-        Check.due("19: full", x.free(), 0);
         return x;
     }
 
